@@ -710,7 +710,7 @@ public final class SundialWorks {
                 return ILLEGAL_STATE;
             }
             for (int i = 0; i < commissionCount; i++) {
-                if ((chosen & 1 << i) != 0) {
+                if ((chosen & (1 << i)) != 0) {
                     commissions[i].state = CAST;
                     commissions[i].casting = castings;
                     kilograms += commissions[i].weight();
@@ -753,7 +753,7 @@ public final class SundialWorks {
             int sum = 0;
             for (int i = 0; i < commissionCount; i++) {
                 int weight = commissions[i].weight();
-                if ((waiting & 1 << i) != 0 && sum + weight <= settings[MELT]) {
+                if ((waiting & (1 << i)) != 0 && sum + weight <= settings[MELT]) {
                     chosen |= 1 << i;
                     sum += weight;
                 }

@@ -200,6 +200,9 @@ public final class CommissionsTest {
         works.set(3, 100);
         CHECK.due("an asked one is not cast", 1, works.cast());
         CHECK.due("still asked", 0, works.commission(5, 4));
+        works = Check.withAccepted(10, 10, 10, 10, 10, 10, 10, 10, 10, 10);
+        CHECK.due("all ten at once", 10, works.cast());
+        CHECK.due("their kilograms", 10, works.count(9));
     }
 
     private static int castWith(SundialWorks works, int melt) {

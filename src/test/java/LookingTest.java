@@ -62,6 +62,10 @@ public final class LookingTest {
         CHECK.due("six degrees are too many", 2, works.count(1));
         works.set(0, 6);
         CHECK.due("not for a tolerance of 6", 3, works.count(1));
+        for (int wall = 3; wall < 6; wall++) {
+            CHECK.due("the next wall", wall, Check.knownWall(works, wall));
+        }
+        CHECK.due("six known walls", 6, works.count(1));
     }
 
     private static void promise18() {
@@ -130,8 +134,8 @@ public final class LookingTest {
     }
 
     private static void weights() {
-        int[] sizes = {10, 12, 13, 15, 18, 19, 25, 35, 45, 60};
-        int[] weights = {1, 1, 2, 2, 3, 4, 6, 12, 20, 36};
+        int[] sizes = {10, 12, 13, 15, 18, 25, 35, 42, 58, 60};
+        int[] weights = {1, 1, 2, 2, 3, 6, 12, 18, 34, 36};
         SundialWorks works = new SundialWorks();
         for (int i = 0; i < sizes.length; i++) {
             works.ask(40, -1, sizes[i], 0);

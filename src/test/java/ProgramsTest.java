@@ -97,6 +97,12 @@ public final class ProgramsTest {
     private static void places() {
         failsAt("no such word", 0, "walls;");
         failsAt("a word cut short", 0, "wal;");
+        failsAt("a letter more", 0, "walla;");
+        failsAt("z is a letter, too", 0, "wallz;");
+        failsAt("what comes behind z is none", 4, "wall{;");
+        failsAt("what comes before a is none", 4, "wall`;");
+        failsAt("what comes behind 9 is no digit", 8, "decide 0:");
+        failsAt("what comes before 0 is no digit", 8, "decide 0/");
         failsAt("a capital letter", 0, "Wall;");
         failsAt("a capital inside", 0, "waLl;");
         failsAt("no word", 2, "  ;");

@@ -51,6 +51,7 @@ public final class SettingsAndWallsTest {
         CHECK.due("each success is an action", 3, works.count(11));
         CHECK.due("undo takes the last back", 2, works.undo());
         CHECK.due("undone", 0, works.correction(11));
+        CHECK.due("the earlier ones stay", 20, works.correction(0));
     }
 
     private static void promise3() {

@@ -68,6 +68,48 @@ public final class SnapshotsTest {
         CHECK.due("gives the state before it back", 3, works.count(2));
         CHECK.due("and its castings", 2, works.count(8));
         otherSlotStays();
+        anotherOfTheSameNumber();
+        keptDeclination();
+    }
+
+    private static void anotherOfTheSameNumber() {
+        SundialWorks works = new SundialWorks();
+        works.addWall();
+        works.take(1);
+        works.ask(41, 0, 21, -7);
+        works.decide(0);
+        works.take(0);
+        works.restore(1);
+        CHECK.due("its number is free", 0, works.ask(50, -1, 30, 8));
+        CHECK.due("the first one comes back", 1, works.restore(0));
+        int[] first = {41, 0, 21, -7, 4, Check.NONE, 4, Check.NONE, 1};
+        for (int what = 0; what < first.length; what++) {
+            CHECK.due("property " + what, first[what], works.commission(0, what));
+        }
+        works.undo();
+        int[] second = {50, -1, 30, 8, 0, 0, 9, Check.NONE, 0};
+        for (int what = 0; what < second.length; what++) {
+            CHECK.due("undone, property " + what, second[what], works.commission(0, what));
+        }
+    }
+
+    private static void keptDeclination() {
+        SundialWorks works = new SundialWorks();
+        works.set(2, 60);
+        Check.knownWall(works, 25);
+        works.ask(45, 0, 20, 0);
+        works.take(0);
+        works.decide(0);
+        works.take(1);
+        works.restore(0);
+        works.measure(0, -40);
+        works.measure(0, -40);
+        works.decide(0);
+        CHECK.due("accepted for the newer declination", -40, works.commission(0, 5));
+        works.restore(1);
+        CHECK.due("the snapshot has the older one", 25, works.commission(0, 5));
+        works.measure(0, 0);
+        CHECK.due("and it is kept", 25, works.commission(0, 5));
     }
 
     private static void changeAll(SundialWorks works) {
