@@ -565,7 +565,7 @@ public final class SundialWorks {
         }
     }
 
-    /** What a snapshot keeps. A call that changes it answers as the public one does, and changes nothing in an error. */
+    /** What a snapshot keeps. What changes it answers as the public call does, and changes nothing in an error. */
     private static final class Shop {
         final Wall[] walls = new Wall[WALLS];
         final int[] corrections = new int[MONTHS];
@@ -968,7 +968,7 @@ public final class SundialWorks {
             return character >= '0' && character <= '9' ? 2 : 0;
         }
 
-        /** Reads a command from its word, which is the token, to its ";". If it is not allowed, so is the token then. */
+        /** Reads a command from its word, the token, to its ";". If it is not allowed, the token is then where it fails. */
         int parseCommand() {
             int command = commandOfToken();
             if (command == NOT_ALLOWED) {

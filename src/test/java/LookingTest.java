@@ -11,7 +11,7 @@ public final class LookingTest {
         CHECK.end();
     }
 
-    /** Two known walls of three; of ten commissions one is asked, two accepted, three cast, one delivered, three refused. */
+    /** Two walls of three are known; one commission is asked, two accepted, three cast, one delivered, three refused. */
     private static SundialWorks busyWorkshop() {
         SundialWorks works = new SundialWorks();
         works.set(2, 60);
